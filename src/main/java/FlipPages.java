@@ -441,7 +441,7 @@ public final class FlipPages {
         }
     }
 
-    /** The writes that are held back, in order. */
+    /** The writes that are held back; its arrays are made once, as all calls of a run share one room. */
     private static final class Row {
         final int[] target = new int[ROW_ROOM];
         final int[][] bytes = new int[ROW_ROOM][BYTES];

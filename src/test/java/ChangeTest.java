@@ -59,8 +59,11 @@ public final class ChangeTest {
         CHECKS.equal("a byte damaged before the change", x.read(2, 7, false), 99);
         CHECKS.equal("a byte damaged after it", x.read(2, 8, false), 9);
         x.abort();
+        x.fill(5, -1, -1);
+        x.abort();
         x.write(5, 1, 6);
         CHECKS.equal("a page that lies nowhere begins with zeros", x.read(5, 0, false), 0);
+        CHECKS.equal("to its last byte", x.read(5, 15, false), 0);
         x.abort();
         x.write(2, 1, 7);
         CHECKS.equal("nothing is left of an aborted change", x.read(2, 0, false), 1);

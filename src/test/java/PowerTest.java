@@ -156,6 +156,7 @@ public final class PowerTest {
             mountsNot("byte " + i + " wrong", master);
         }
         mountsNot("a table in sector 0", Stores.master(0, 0, 0, 0, 0));
+        mountsNot("a table in sector 0, which would do as one", Stores.master(0, 0, 0, 1, 0));
         mountsNot("a table in sector 48", Stores.master(0, 0, 0, 0, 48));
         mountsNot("a table in sector 255", Stores.master(0, 0, 0, 0, 255));
     }
