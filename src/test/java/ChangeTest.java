@@ -6,17 +6,10 @@ public final class ChangeTest {
         writeAnswersWhatTheByteWas();
         firstChangeTakesTheLeastFreeSector();
         firstChangeCopiesThePage();
-        writeRefuses();
         fillSetsAllBytes();
-        fillRefuses();
         readFollowsTheOpenChange();
-        readOfAPageThatLiesNowhere();
-        readRefuses();
         spillHoldsBackThePageAsItIs();
-        aChangeMakesItUnspilled();
-        spillRefuses();
         abortDropsTheChange();
-        abortRefuses();
         CHECKS.end();
     }
 
@@ -69,22 +62,6 @@ public final class ChangeTest {
         CHECKS.equal("nothing is left of an aborted change", x.read(2, 0, false), 1);
     }
 
-    private static void writeRefuses() {
-        CHECKS.argument("write(-1, ..)", FlipPages::new, x -> x.write(-1, 0, 0));
-        CHECKS.argument("write(16, ..)", FlipPages::new, x -> x.write(16, 0, 0));
-        CHECKS.argument("write(0, -1, ..)", FlipPages::new, x -> x.write(0, -1, 0));
-        CHECKS.argument("write(0, 16, ..)", FlipPages::new, x -> x.write(0, 16, 0));
-        CHECKS.argument("write(0, 0, -1)", FlipPages::new, x -> x.write(0, 0, -1));
-        CHECKS.argument("write(0, 0, 256)", FlipPages::new, x -> x.write(0, 0, 256));
-        CHECKS.argument("a wrong write, broken", Stores::broken, x -> x.write(0, 0, 256));
-        CHECKS.argument("a wrong write, crowded", Stores::crowded, x -> x.write(13, 16, 0));
-        CHECKS.state("write, broken", Stores::broken, x -> x.write(0, 0, 0));
-        CHECKS.state("write, no sector free", Stores::crowded, x -> x.write(13, 0, 0));
-        FlipPages x = Stores.crowded();
-        CHECKS.equal("no sector is free", x.total(2), 0);
-        CHECKS.equal("write to a page changed before", x.write(12, 0, 9), 213);
-    }
-
     private static void fillSetsAllBytes() {
         FlipPages x = new FlipPages();
         CHECKS.equal("fill of the first page", x.fill(3, 0x8877665544332211L, 0xFFEEDDCCBBAA0099L), 1);
@@ -100,16 +77,6 @@ public final class ChangeTest {
         CHECKS.equal("by the latest table", x.read(3, 8, true), 0);
         x.commit(false);
         CHECKS.equal("fill in the next change", x.fill(15, 2, 2), 1);
-    }
-
-    private static void fillRefuses() {
-        CHECKS.argument("fill(-1, ..)", FlipPages::new, x -> x.fill(-1, 0, 0));
-        CHECKS.argument("fill(16, ..)", FlipPages::new, x -> x.fill(16, 0, 0));
-        CHECKS.argument("fill(16, ..), broken", Stores::broken, x -> x.fill(16, 0, 0));
-        CHECKS.argument("fill(16, ..), crowded", Stores::crowded, x -> x.fill(16, 0, 0));
-        CHECKS.state("fill, broken", Stores::broken, x -> x.fill(0, 1, 1));
-        CHECKS.state("fill, no sector free", Stores::crowded, x -> x.fill(15, 1, 1));
-        CHECKS.equal("fill of a page changed before", Stores.crowded().fill(0, 1, 1), 13);
     }
 
     private static void readFollowsTheOpenChange() {
@@ -128,23 +95,6 @@ public final class ChangeTest {
         CHECKS.equal("without a change by latest", x.read(4, 0, true), 200);
         x.fail(0);
         CHECKS.equal("after the master was lost", x.read(4, 0, false), 124);
-    }
-
-    private static void readOfAPageThatLiesNowhere() {
-        FlipPages x = new FlipPages();
-        for (int i = 0; i < 16; i++) {
-            CHECKS.equal("byte " + i, x.read(7, i, i % 2 == 0), 0);
-        }
-    }
-
-    private static void readRefuses() {
-        CHECKS.argument("read(-1, ..)", FlipPages::new, x -> x.read(-1, 0, false));
-        CHECKS.argument("read(16, ..)", FlipPages::new, x -> x.read(16, 0, true));
-        CHECKS.argument("read(0, -1, ..)", FlipPages::new, x -> x.read(0, -1, false));
-        CHECKS.argument("read(0, 16, ..)", FlipPages::new, x -> x.read(0, 16, true));
-        CHECKS.argument("a wrong read, broken", Stores::broken, x -> x.read(0, 16, true));
-        CHECKS.state("read, broken", Stores::broken, x -> x.read(0, 0, false));
-        CHECKS.state("read by latest, broken", Stores::broken, x -> x.read(0, 0, true));
     }
 
     private static void spillHoldsBackThePageAsItIs() {
@@ -167,65 +117,6 @@ public final class ChangeTest {
         CHECKS.equal("and keeps its sector", x.place(6, 2), 2);
     }
 
-    private static void aChangeMakesItUnspilled() {
-        FlipPages x = new FlipPages();
-        x.write(0, 0, 1);
-        x.spill(0);
-        x.write(0, 0, 1);
-        CHECKS.equal("spill behind a write", x.spill(0), 2);
-        x.fill(0, 0, 0);
-        CHECKS.equal("spill behind a fill", x.spill(0), 3);
-        x.write(1, 0, 1);
-        CHECKS.same("spill behind another page's write", Checks.thrown(() -> x.spill(0)),
-                "java.lang.IllegalArgumentException");
-        x.abort();
-        x.write(0, 0, 1);
-        CHECKS.equal("spill in a new change", x.spill(0), 4);
-    }
-
-    private static FlipPages spilled() {
-        FlipPages x = new FlipPages();
-        x.write(0, 0, 1);
-        x.write(1, 0, 2);
-        x.spill(0);
-        return x;
-    }
-
-    private static FlipPages spilledAndFlushed() {
-        FlipPages x = spilled();
-        x.flush();
-        return x;
-    }
-
-    /** The master's write is one of the 60. */
-    private static FlipPages rowWithMasterOf60() {
-        FlipPages x = new FlipPages();
-        x.write(0, 0, 1);
-        x.commit(false);
-        for (int n = 0; n < 59; n++) {
-            x.write(0, 0, n);
-            x.spill(0);
-        }
-        x.write(0, 0, 60);
-        return x;
-    }
-
-    private static void spillRefuses() {
-        CHECKS.argument("spill(-1)", ChangeTest::spilled, x -> x.spill(-1));
-        CHECKS.argument("spill(16)", ChangeTest::spilled, x -> x.spill(16));
-        CHECKS.argument("spill without a change", FlipPages::new, x -> x.spill(0));
-        CHECKS.argument("spill without a change, committed", Stores::full, x -> x.spill(0));
-        CHECKS.argument("spill of an unchanged page", ChangeTest::spilled, x -> x.spill(2));
-        CHECKS.argument("spill again", ChangeTest::spilled, x -> x.spill(0));
-        CHECKS.argument("spill again behind a flush", ChangeTest::spilledAndFlushed, x -> x.spill(0));
-        CHECKS.argument("spill, broken", Stores::broken, x -> x.spill(0));
-        CHECKS.argument("spill again, 60 held back", Stores::rowOf60, x -> x.spill(0));
-        CHECKS.argument("spill of an unchanged page, 60 held back", Stores::rowOf60, x -> x.spill(2));
-        CHECKS.state("spill, 60 held back", Stores::rowOf60, x -> x.spill(1));
-        CHECKS.state("spill, 60 held back with the master", ChangeTest::rowWithMasterOf60, x -> x.spill(0));
-        CHECKS.equal("60 are held back", Stores.rowOf60().total(0), 60);
-    }
-
     private static void abortDropsTheChange() {
         FlipPages x = Stores.full();
         x.write(0, 0, 80);
@@ -242,13 +133,5 @@ public final class ChangeTest {
         CHECKS.equal("flush", x.flush(), 1);
         CHECKS.equal("and is done", x.disk(1, 0), 80);
         CHECKS.equal("what was not held back is not", x.disk(19, 0), 0);
-    }
-
-    private static void abortRefuses() {
-        CHECKS.state("abort without a change", Stores::full, FlipPages::abort);
-        CHECKS.state("abort, broken", Stores::broken, FlipPages::abort);
-        FlipPages x = ChangeTest.spilled();
-        x.abort();
-        CHECKS.same("a second abort", Checks.thrown(x::abort), "java.lang.IllegalStateException");
     }
 }

@@ -9,6 +9,22 @@ final class Checks {
 
     private int looked;
     private int wrong;
+    private String heading = "";
+
+    /** The test of one sentence of the document: what is wrong is told under the sentence's words. */
+    void sentence(String words, Call test) {
+        int before = looked;
+        heading = words + ": ";
+        try {
+            test.go();
+        } catch (RuntimeException e) {
+            tell("a call out of turn threw " + e + " at " + e.getStackTrace()[0]);
+        }
+        if (looked == before) {
+            tell("nothing was looked at");
+        }
+        heading = "";
+    }
 
     void equal(String what, long got, long due) {
         looked++;
@@ -33,19 +49,27 @@ final class Checks {
     }
 
     void argument(String what, Supplier<FlipPages> made, Consumer<FlipPages> call) {
-        refused(what, IllegalArgumentException.class, made, call);
+        refused(what, "java.lang.IllegalArgumentException", made, call);
     }
 
     void state(String what, Supplier<FlipPages> made, Consumer<FlipPages> call) {
-        refused(what, IllegalStateException.class, made, call);
+        refused(what, "java.lang.IllegalStateException", made, call);
     }
 
     /** The call throws just this, and leaves the object as one that was made alike and never called so. */
-    private void refused(String what, Class<?> due, Supplier<FlipPages> made, Consumer<FlipPages> call) {
+    private void refused(String what, String due, Supplier<FlipPages> made, Consumer<FlipPages> call) {
         FlipPages x = made.get();
-        String got = thrown(() -> call.accept(x));
-        same(what + " throws", got, due.getName());
-        same("the state after " + what, Stores.look(x), Stores.look(made.get()));
+        same(what + " throws", thrown(() -> call.accept(x)), due);
+        same("the state after " + what, Look.at(() -> called(made.get(), call)), Look.at(made));
+    }
+
+    private static FlipPages called(FlipPages x, Consumer<FlipPages> call) {
+        thrown(() -> call.accept(x));
+        return x;
+    }
+
+    void throwsNothing(String what, Call call) {
+        same(what + " throws", thrown(call), "nothing");
     }
 
     static String thrown(Call call) {
@@ -59,7 +83,7 @@ final class Checks {
 
     private void tell(String text) {
         wrong++;
-        System.out.println(text);
+        System.out.println(heading + text);
     }
 
     void end() {

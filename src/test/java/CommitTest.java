@@ -6,18 +6,11 @@ public final class CommitTest {
         commitWritesPagesAndTable();
         commitHoldsBackTheMaster();
         sureCommitFlushesTheMaster();
-        theTablesSectorIsChosenBeforeTheFlush();
         theFlushOfACommitMakesTheOneBeforeSure();
-        spilledPagesAreNotWrittenAgain();
         writesHeldBackBeforeAreDoneFirst();
-        commitComesWithMoreThan60();
-        generationGoesRound();
-        commitRefuses();
-        commitThenFlushThenCommit();
         flushDoesAllInOrder();
         flushWithoutAMasterKeepsTheSureTable();
         flushKeepsTheOpenChange();
-        flushRefuses();
         CHECKS.end();
     }
 
@@ -73,19 +66,6 @@ public final class CommitTest {
         CHECKS.yes("the old table's sector is free", x.free(1));
     }
 
-    private static void theTablesSectorIsChosenBeforeTheFlush() {
-        FlipPages x = new FlipPages();
-        x.write(0, 0, 1);
-        x.commit(false);
-        x.write(1, 0, 1);
-        x.commit(false);
-        // Sector 1 becomes free only by the second commit's flush.
-        CHECKS.equal("the second table's sector", x.total(4), 5);
-        CHECKS.yes("sector 1 is free behind it", x.free(1));
-        x.write(2, 0, 1);
-        CHECKS.equal("the next page's sector", x.place(2, 2), 1);
-    }
-
     private static void theFlushOfACommitMakesTheOneBeforeSure() {
         FlipPages x = new FlipPages();
         x.write(0, 0, 1);
@@ -102,25 +82,6 @@ public final class CommitTest {
         CHECKS.equal("page 0 behind it", x.read(0, 0, false), 1);
     }
 
-    private static void spilledPagesAreNotWrittenAgain() {
-        FlipPages x = new FlipPages();
-        x.write(0, 0, 1);
-        x.write(1, 0, 2);
-        x.write(2, 0, 3);
-        x.spill(0);
-        x.spill(1);
-        x.flush();
-        x.write(1, 1, 4);
-        x.damage(2, 0, 71);
-        x.damage(3, 0, 72);
-        x.damage(4, 0, 73);
-        x.commit(false);
-        CHECKS.equal("a spilled page", x.disk(2, 0), 71);
-        CHECKS.equal("a page changed behind its spilling", x.disk(3, 0), 2);
-        CHECKS.equal("its other byte", x.disk(3, 1), 4);
-        CHECKS.equal("a page that was not spilled", x.disk(4, 0), 3);
-    }
-
     private static void writesHeldBackBeforeAreDoneFirst() {
         FlipPages x = new FlipPages();
         x.write(0, 0, 1);
@@ -133,61 +94,6 @@ public final class CommitTest {
         CHECKS.equal("the page wins over the aborted write", x.disk(2, 0), 50);
         CHECKS.equal("the table wins over the aborted write", x.disk(3, 5), 2);
         CHECKS.equal("of which nothing is left", x.disk(3, 0), 0);
-    }
-
-    private static void commitComesWithMoreThan60() {
-        FlipPages x = Stores.rowOf60();
-        for (int p = 0; p < 16; p++) {
-            x.write(p, 1, p);
-        }
-        CHECKS.equal("commit", x.commit(false), 1);
-        CHECKS.equal("only the master is held back", x.total(0), 1);
-        for (int p = 0; p < 16; p++) {
-            CHECKS.equal("page " + p, x.read(p, 1, true), p);
-        }
-        CHECKS.equal("page 0's last write", x.read(0, 0, true), 60);
-        CHECKS.equal("page 1's last write", x.read(1, 0, true), 77);
-    }
-
-    private static void generationGoesRound() {
-        FlipPages x = new FlipPages();
-        Stores.putSector(x, 0, Stores.master(255, 255, 255, 254, 1));
-        CHECKS.yes("it is mounted", x.fail(0));
-        CHECKS.equal("its generation", x.total(3), -2);
-        x.write(0, 0, 1);
-        CHECKS.equal("the next", x.commit(true), -1);
-        CHECKS.equal("its byte 0", x.disk(0, 0), 255);
-        CHECKS.equal("its byte 3", x.disk(0, 3), 255);
-        CHECKS.equal("the latest table's", x.total(3), -1);
-        x.write(0, 0, 1);
-        CHECKS.equal("and again 0", x.commit(true), 0);
-        CHECKS.equal("its byte 0", x.disk(0, 0), 0);
-        Stores.putSector(x, 0, Stores.master(1, 2, 3, 255, x.total(4)));
-        x.fail(0);
-        x.write(0, 0, 1);
-        CHECKS.equal("with a carry", x.commit(false), 0x01020400);
-        CHECKS.equal("its byte 0", x.held(0, 0), 1);
-        CHECKS.equal("its byte 1", x.held(0, 1), 2);
-        CHECKS.equal("its byte 2", x.held(0, 2), 4);
-        CHECKS.equal("its byte 3", x.held(0, 3), 0);
-    }
-
-    private static void commitRefuses() {
-        CHECKS.state("commit without a change", FlipPages::new, x -> x.commit(false));
-        CHECKS.state("commit(true) without a change", Stores::apart, x -> x.commit(true));
-        CHECKS.state("commit, broken", Stores::broken, x -> x.commit(false));
-        CHECKS.state("commit, no sector free", Stores::crowded, x -> x.commit(false));
-        CHECKS.state("commit(true), no sector free", Stores::crowded, x -> x.commit(true));
-    }
-
-    private static void commitThenFlushThenCommit() {
-        FlipPages x = Stores.crowded();
-        CHECKS.equal("flush does the master", x.flush(), 1);
-        CHECKS.equal("the old tables' sectors are free", x.total(2), 17);
-        CHECKS.equal("commit", x.commit(true), 3);
-        CHECKS.equal("its table's sector", x.total(4), 2);
-        CHECKS.equal("page 12", x.read(12, 0, true), 213);
-        CHECKS.equal("page 13", x.read(13, 0, true), 114);
     }
 
     private static void flushDoesAllInOrder() {
@@ -233,9 +139,5 @@ public final class CommitTest {
         CHECKS.equal("its byte", x.read(3, 0, false), 9);
         CHECKS.equal("what the disk has", x.disk(35, 0), 0);
         CHECKS.equal("it is not spilled", x.spill(3), 1);
-    }
-
-    private static void flushRefuses() {
-        CHECKS.state("flush, broken", Stores::broken, FlipPages::flush);
     }
 }

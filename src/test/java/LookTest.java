@@ -1,18 +1,12 @@
-/** Promises 12 to 16: disk, place, free, held, total. */
+/** Promises 12 to 15: disk, place, free, held. */
 public final class LookTest {
     private static final Checks CHECKS = new Checks();
 
     public static void main(String[] args) {
         diskTellsTheDiskAlone();
-        diskRefuses();
         placeTellsThreeTables();
-        placeRefuses();
         freeTellsWhatNothingUses();
-        freeRefuses();
         heldTellsTheRow();
-        heldRefuses();
-        totalTellsAll();
-        totalRefuses();
         CHECKS.end();
     }
 
@@ -28,14 +22,6 @@ public final class LookTest {
         CHECKS.equal("the disk of a broken store", broken.disk(2, 0), 1);
     }
 
-    private static void diskRefuses() {
-        CHECKS.argument("disk(-1, 0)", FlipPages::new, x -> x.disk(-1, 0));
-        CHECKS.argument("disk(48, 0)", FlipPages::new, x -> x.disk(48, 0));
-        CHECKS.argument("disk(0, -1)", FlipPages::new, x -> x.disk(0, -1));
-        CHECKS.argument("disk(0, 16)", FlipPages::new, x -> x.disk(0, 16));
-        CHECKS.argument("disk(48, 0), broken", Stores::broken, x -> x.disk(48, 0));
-    }
-
     private static void placeTellsThreeTables() {
         FlipPages x = Stores.apart();
         CHECKS.equal("the open one without a change", x.place(0, 2), 1);
@@ -47,19 +33,6 @@ public final class LookTest {
         int[] unchanged = {33, 17, 33};
         for (int which = 0; which < 3; which++) {
             CHECKS.equal("place(15, " + which + ")", x.place(15, which), unchanged[which]);
-        }
-    }
-
-    private static void placeRefuses() {
-        CHECKS.argument("place(-1, 0)", FlipPages::new, x -> x.place(-1, 0));
-        CHECKS.argument("place(16, 0)", FlipPages::new, x -> x.place(16, 0));
-        CHECKS.argument("place(0, -1)", FlipPages::new, x -> x.place(0, -1));
-        CHECKS.argument("place(0, 3)", FlipPages::new, x -> x.place(0, 3));
-        CHECKS.argument("place(0, 3), broken", Stores::broken, x -> x.place(0, 3));
-        CHECKS.argument("place(16, 0), broken", Stores::broken, x -> x.place(16, 0));
-        for (int which = 0; which < 3; which++) {
-            int table = which;
-            CHECKS.state("place(0, " + which + "), broken", Stores::broken, x -> x.place(0, table));
         }
     }
 
@@ -80,15 +53,6 @@ public final class LookTest {
         }
     }
 
-    private static void freeRefuses() {
-        CHECKS.argument("free(-1)", FlipPages::new, x -> x.free(-1));
-        CHECKS.argument("free(48)", FlipPages::new, x -> x.free(48));
-        CHECKS.argument("free(66)", FlipPages::new, x -> x.free(66));
-        CHECKS.argument("free(48), broken", Stores::broken, x -> x.free(48));
-        CHECKS.state("free(5), broken", Stores::broken, x -> x.free(5));
-        CHECKS.state("free(0), broken", Stores::broken, x -> x.free(0));
-    }
-
     private static void heldTellsTheRow() {
         FlipPages x = Stores.apart();
         x.fill(1, 0x0807060504030201L, 0x100F0E0D0C0B0A09L);
@@ -101,39 +65,5 @@ public final class LookTest {
         FlipPages long60 = Stores.rowOf60();
         CHECKS.equal("write 59", long60.held(59, 0), 60);
         CHECKS.equal("write 59's sector", long60.held(59, -1), 3);
-    }
-
-    private static void heldRefuses() {
-        CHECKS.argument("held(0, -1), nothing held back", FlipPages::new, x -> x.held(0, -1));
-        CHECKS.argument("held(-1, 0)", Stores::apart, x -> x.held(-1, 0));
-        CHECKS.argument("held(1, 0)", Stores::apart, x -> x.held(1, 0));
-        CHECKS.argument("held(0, -2)", Stores::apart, x -> x.held(0, -2));
-        CHECKS.argument("held(0, 16)", Stores::apart, x -> x.held(0, 16));
-        CHECKS.argument("held(60, 0)", Stores::rowOf60, x -> x.held(60, 0));
-        CHECKS.argument("held(77, 0)", Stores::rowOf60, x -> x.held(77, 0));
-        CHECKS.argument("held(0, 0), flushed", Stores::full, x -> x.held(0, 0));
-        CHECKS.argument("held(0, 0), broken", Stores::broken, x -> x.held(0, 0));
-    }
-
-    private static void totals(String what, FlipPages x, int... due) {
-        for (int n = 0; n < 8; n++) {
-            CHECKS.equal(what + ", total(" + n + ")", x.total(n), due[n]);
-        }
-    }
-
-    private static void totalTellsAll() {
-        totals("new", new FlipPages(), 0, -1, 46, 0, 1, 0, 1, 0);
-        totals("full", Stores.full(), 0, -1, 30, 1, 18, 1, 18, 0);
-        totals("apart", Stores.apart(), 1, -1, 13, 2, 34, 1, 18, 0);
-        totals("crowded", Stores.crowded(), 1, 13, 0, 2, 34, 1, 18, 0);
-        totals("row of 60", Stores.rowOf60(), 60, 2, 44, 0, 1, 0, 1, 0);
-        totals("broken", Stores.broken(), 0, -1, -1, -1, -1, -1, -1, 1);
-    }
-
-    private static void totalRefuses() {
-        CHECKS.argument("total(-1)", FlipPages::new, x -> x.total(-1));
-        CHECKS.argument("total(8)", FlipPages::new, x -> x.total(8));
-        CHECKS.argument("total(8), broken", Stores::broken, x -> x.total(8));
-        CHECKS.argument("total(-1), broken", Stores::broken, x -> x.total(-1));
     }
 }

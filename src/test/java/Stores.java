@@ -1,5 +1,22 @@
-/** Stores in the states that several tests need, and a look at what can be seen of one. */
+import java.util.List;
+import java.util.function.Supplier;
+
+/** Stores in the states that several tests need. */
 final class Stores {
+    record State(String name, Supplier<FlipPages> made) {
+    }
+
+    static final List<State> ALL = List.of(
+            new State("new", FlipPages::new),
+            new State("spilled", Stores::spilled),
+            new State("apart", Stores::apart),
+            new State("one sector free", Stores::oneFree),
+            new State("no sector free", Stores::crowded),
+            new State("60 held back", Stores::rowOf60),
+            new State("60 held back, the master's among them", Stores::rowOf60WithMaster),
+            new State("broken", Stores::broken),
+            new State("broken by its table", Stores::brokenTable));
+
     private Stores() {
     }
 
@@ -23,21 +40,46 @@ final class Stores {
         return x;
     }
 
-    /** As apart, and the 13 sectors that are left (35 .. 47) are taken by changes of pages 0 .. 12. */
-    static FlipPages crowded() {
+    /** As apart, and of the 13 sectors that are left (35 .. 47) all but 47 are taken, by pages 0 .. 11. */
+    static FlipPages oneFree() {
         FlipPages x = apart();
-        for (int p = 0; p < 13; p++) {
+        for (int p = 0; p < 12; p++) {
             x.write(p, 0, p + 201);
         }
         return x;
     }
 
+    /** As apart, and the 13 sectors that are left (35 .. 47) are taken by changes of pages 0 .. 12. */
+    static FlipPages crowded() {
+        FlipPages x = oneFree();
+        x.write(12, 0, 213);
+        return x;
+    }
+
+    /** By its master: the check is wrong. */
     static FlipPages broken() {
         FlipPages x = new FlipPages();
         x.write(0, 0, 1);
         x.commit(true);
         x.damage(0, 15, x.disk(0, 15) ^ 1);
         x.fail(0);
+        return x;
+    }
+
+    /** A change was open and a write held back when the power failed, and page 0 lies nowhere that is. */
+    static FlipPages brokenTable() {
+        FlipPages x = spilled();
+        x.damage(1, 0, 48);
+        x.fail(1);
+        return x;
+    }
+
+    /** Page 0 is changed and spilled (sector 2), page 1 is changed and not spilled (sector 3). */
+    static FlipPages spilled() {
+        FlipPages x = new FlipPages();
+        x.write(0, 0, 1);
+        x.write(1, 0, 2);
+        x.spill(0);
         return x;
     }
 
@@ -49,6 +91,19 @@ final class Stores {
             x.write(0, 0, n);
             x.spill(0);
         }
+        return x;
+    }
+
+    /** The master's write is one of the 60; page 0 is changed and not spilled. */
+    static FlipPages rowOf60WithMaster() {
+        FlipPages x = new FlipPages();
+        x.write(0, 0, 1);
+        x.commit(false);
+        for (int n = 0; n < 59; n++) {
+            x.write(0, 0, n);
+            x.spill(0);
+        }
+        x.write(0, 0, 60);
         return x;
     }
 
@@ -69,39 +124,5 @@ final class Stores {
         bytes[14] = (int) (check / 256);
         bytes[15] = (int) (check % 256);
         return bytes;
-    }
-
-    /** What can be seen of a store, in some 300 calls, so that an object stays below its 512. */
-    static String look(FlipPages x) {
-        StringBuilder seen = new StringBuilder("totals");
-        for (int what = 0; what < 8; what++) {
-            seen.append(' ').append(x.total(what));
-        }
-        seen.append("\ndisk");
-        for (int sector = 0; sector < 48; sector++) {
-            seen.append(' ').append(x.disk(sector, sector == 0 ? 15 : 0));
-        }
-        seen.append("\nheld");
-        int held = x.total(0);
-        for (int k = 0; k < held; k++) {
-            seen.append(' ').append(x.held(k, -1)).append(':').append(x.held(k, 0));
-        }
-        if (x.total(7) == 0) {
-            lookAtPages(x, seen);
-        }
-        return seen.toString();
-    }
-
-    private static void lookAtPages(FlipPages x, StringBuilder seen) {
-        seen.append("\npages");
-        for (int page = 0; page < 16; page++) {
-            seen.append(' ').append(x.place(page, 0)).append('/').append(x.place(page, 1));
-            seen.append('/').append(x.place(page, 2));
-            seen.append(':').append(x.read(page, 0, true)).append('/').append(x.read(page, 0, false));
-        }
-        seen.append("\nfree");
-        for (int sector = 0; sector < 48; sector++) {
-            seen.append(x.free(sector) ? " y" : " n");
-        }
     }
 }
