@@ -134,27 +134,38 @@ public final class CallLimitTest {
     }
 
     private static Consumer<FlipPages> anyCall(Random random) {
+        // Where the row is seldom emptied it gets full.
+        return random.nextInt(3000) < 3 ? anyEnd(random) : anyChangeOrLook(random);
+    }
+
+    private static Consumer<FlipPages> anyEnd(Random random) {
+        long done = random.nextLong();
+        boolean sure = random.nextBoolean();
+        return switch (random.nextInt(6)) {
+            case 0 -> x -> x.fail(done);
+            case 1 -> FlipPages::abort;
+            case 2 -> FlipPages::flush;
+            case 3 -> FlipPages::format;
+            default -> x -> x.commit(sure);
+        };
+    }
+
+    private static Consumer<FlipPages> anyChangeOrLook(Random random) {
         int a = anyNumber(random);
         int b = anyNumber(random);
         int c = anyNumber(random);
         long w = random.nextLong();
         boolean yes = random.nextBoolean();
-        return switch (random.nextInt(60)) {
-            case 0 -> x -> x.fail(w);
-            case 1 -> x -> x.damage(a, b, c);
-            case 2 -> x -> x.damage(0, b, c);
-            case 3, 4 -> FlipPages::format;
-            case 5 -> FlipPages::abort;
-            case 6 -> FlipPages::flush;
-            case 7, 8 -> x -> x.commit(yes);
-            case 9, 10 -> x -> x.held(a, b);
-            case 11, 12 -> x -> x.total(a);
-            case 13, 14 -> x -> x.place(a, b);
-            case 15, 16 -> x -> x.free(a);
-            case 17, 18 -> x -> x.disk(a, b);
-            case 19, 20 -> x -> x.read(a, b, yes);
-            case 21, 22, 23, 24, 25 -> x -> x.fill(a, w, -w);
-            case 26, 27, 28, 29, 30, 31, 32, 33, 34, 35 -> x -> x.write(a, b, c);
+        return switch (random.nextInt(15)) {
+            case 0 -> x -> x.damage(a, b, c);
+            case 1 -> x -> x.held(a, b);
+            case 2 -> x -> x.total(a);
+            case 3 -> x -> x.place(a, b);
+            case 4 -> x -> x.free(a);
+            case 5 -> x -> x.disk(a, b);
+            case 6 -> x -> x.read(a, b, yes);
+            case 7 -> x -> x.fill(a, w, -w);
+            case 8, 9, 10 -> x -> x.write(a, b, c);
             default -> x -> x.spill(a);
         };
     }

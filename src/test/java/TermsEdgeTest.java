@@ -49,7 +49,7 @@ public final class TermsEdgeTest {
         CHECKS.equal("page 0's place", x.place(0, 2), 0);
     }
 
-    /** The generation's low half with this check, the table lying in sector 3. */
+    /** The first generation with this check, the table lying in sector 3. */
     private static int generationWith(int check) {
         for (int g = 1; g < 1 << 24; g++) {
             int[] master = master(g, 3);
@@ -146,6 +146,11 @@ public final class TermsEdgeTest {
         aborted.spill(9);
         CHECKS.equal("flush", aborted.flush(), 2);
         CHECKS.equal("the later change's write of one sector stands", aborted.disk(2, 0), 90);
+        FlipPages two = Stores.spilled();
+        two.spill(1);
+        CHECKS.equal("flush", two.flush(), 2);
+        CHECKS.equal("the first of two sectors", two.disk(2, 0), 1);
+        CHECKS.equal("the last of two sectors", two.disk(3, 0), 2);
     }
 
     /** A master's write, then three pages' of which two go to one sector. */
@@ -230,9 +235,9 @@ public final class TermsEdgeTest {
         sureIs("behind a flush without a master", x, 4, 3, 2);
     }
 
+    /** No page lies in 0 here, so that it is used by nothing but the master. */
     private static void zeroIsNotFree() {
-        FlipPages x = Stores.apart();
-        x.flush();
+        FlipPages x = Stores.full();
         CHECKS.no("free(0)", x.free(0));
         for (int p = 0; p < 16; p++) {
             x.write(p, 0, 1);
